@@ -521,6 +521,7 @@ public final class KickflipPark {
         return seen.parts;
     }
 
+    // One that is open is left too: it is a run that was not struck out.
     private int runsLeft(Entry entry) {
         int count = 0;
         for (Run run : runs) {
@@ -758,6 +759,7 @@ public final class KickflipPark {
         return true;
     }
 
+    // A run that was struck out is an ended one still, though it does not count.
     private boolean hasEndedRun(Round round, Entry entry) {
         for (Run run : runs) {
             if (run != null && run.round == round && run.entry == entry && run.isEnded) {
@@ -802,6 +804,7 @@ public final class KickflipPark {
         throw new NoSuchElementException();
     }
 
+    // Each is aged before the best are taken: the document orders no like points of unlike age.
     private int listSum(Athlete athlete) {
         int best = 0;
         int second = 0;
@@ -1400,6 +1403,7 @@ public final class KickflipPark {
         private int parts = 0;
         private boolean isEnded = false;
         private boolean isStruck = false;
+        // By closing the event while it was held.
         private boolean isLost = false;
 
         private Run(int number, Event event, Entry entry) {
@@ -1516,13 +1520,13 @@ public final class KickflipPark {
 
         private int bySight() {
             int total = 0;
-            int least = Integer.MAX_VALUE;
-            int greatest = Integer.MIN_VALUE;
+            int least = 0;
+            int greatest = 0;
             for (int judge = 0; judge < event.judges && judge < marks.length; judge++) {
                 int clean = marks[judge] - event.slipOf(judge);
                 total += clean;
-                least = Math.min(least, clean);
-                greatest = Math.max(greatest, clean);
+                least = judge == 0 ? clean : Math.min(least, clean);
+                greatest = judge == 0 ? clean : Math.max(greatest, clean);
             }
             int left = event.judges;
             if (left >= 4) {

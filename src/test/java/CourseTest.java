@@ -40,6 +40,8 @@ public final class CourseTest {
         for (int i = 0; i < 10; i++) {
             c.due("feature " + i, p.feature(kinds.charAt(i), i == 0 ? 0 : 99, 99, i == 0 ? -20 : 20), i);
         }
+        c.refused("no eleventh", IndexOutOfBoundsException.class, () -> p.build(10, 0, 1, 0));
+        c.due("the tenth", p.build(9, 0, 1, 0), 99);
         c.refused("an eleventh", IllegalStateException.class, () -> p.feature('r', 0, 1, 0));
         c.refused("an eleventh that is wrong", illegal, () -> p.feature('x', 0, 1, 0));
     }

@@ -19,6 +19,8 @@ public final class EntryTest {
         for (int i = 0; i < 12; i++) {
             c.due("athlete " + i, p.athlete(i % 4), i);
         }
+        c.refused("no thirteenth", IndexOutOfBoundsException.class, () -> p.list(12));
+        c.due("the twelfth", p.list(11), 0);
         c.refused("a thirteenth", IllegalStateException.class, () -> p.athlete(0));
         c.refused("a thirteenth that is wrong", IllegalArgumentException.class, () -> p.athlete(4));
     }
@@ -43,6 +45,8 @@ public final class EntryTest {
         for (int i = 0; i < 6; i++) {
             c.due("event " + i, p.event("bsj".charAt(i % 3), i + 2, i % 5 + 1), i);
         }
+        c.refused("no seventh", IndexOutOfBoundsException.class, () -> p.starter(6, 0));
+        c.refused("nobody in the sixth", java.util.NoSuchElementException.class, () -> p.starter(5, 0));
         c.refused("a seventh", IllegalStateException.class, () -> p.event('b', 0, 1));
         c.refused("a seventh that is wrong", illegal, () -> p.event('b', 0, 6));
     }

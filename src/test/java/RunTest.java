@@ -197,6 +197,10 @@ public final class RunTest {
         c.due("half, cut, then the fault", worths(2), "47 23 17 0 23");
         c.due("by feature: nothing", worths(4), "47 47 0 0 0");
         c.due("by feature: half", worths(6), "47 47 17 0 23");
+        c.due("by sight: nothing", worths(1), worths(0));
+        c.due("by sight: half", worths(3), worths(2));
+        c.due("by sight and feature: nothing", worths(5), worths(4));
+        c.due("by sight and feature: half", worths(7), worths(6));
         KickflipPark p = park(2);
         p.start(0, 0);
         p.does(1, 0, 'f');
