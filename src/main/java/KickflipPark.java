@@ -320,10 +320,11 @@ public final class KickflipPark {
         return before;
     }
 
+    // Places are from 0, so the first one has no step of its own and a lone athlete leaves z as it was.
     private void shuffle(Round round) {
-        for (int k = round.size(); k >= 1; k--) {
+        for (int k = round.size() - 1; k >= 1; k--) {
             z = (int) ((long) z * MULTIPLIER % MODULUS);
-            round.swap(k - 1, z % k);
+            round.swap(k, z % (k + 1));
         }
     }
 

@@ -8,6 +8,7 @@ public final class EntryTest {
         events();
         entering();
         drawing();
+        drawingOfEach();
         seeds();
         c.end();
     }
@@ -101,10 +102,10 @@ public final class EntryTest {
             p.enter(0, i);
         }
         c.due("by numbers", order(p, 4), "0123");
-        // z: 48271, 182605794, 1291394886, 1914720637; modulo 4, 3, 2, 1: 3, 0, 0, 0.
+        // z: 48271, 182605794, 1291394886; modulo 4, 3, 2: 3, 0, 0; the places 3, 2, 1 change with these.
         c.due("drawn", p.draw(0), 1);
         c.due("drawn order", order(p, 4), "1203");
-        c.due("z goes on", p.seed(1), 1914720637);
+        c.due("z goes on", p.seed(1), 1291394886);
         p.draw(0);
         c.due("drawn from the numbers anew", order(p, 4), "1203");
         p.enter(0, 4);
@@ -123,16 +124,55 @@ public final class EntryTest {
         q.athlete(0);
         q.event('b', 0, 1);
         q.enter(0, 0);
+        c.due("one athlete is first", q.draw(0), 0);
+        c.due("one athlete leaves z", q.seed(5), 1);
         q.draw(0);
-        c.due("one athlete takes one z", q.seed(1), 48271);
+        c.due("a z that was told, too", q.seed(1), 5);
         q.close(0);
         c.refused("closed", not, () -> q.draw(0));
     }
 
+    // The order and z behind a draw of 1 to 12 athletes from z = 1, and of one more draw behind it from the z that stands.
+    private static void drawingOfEach() {
+        String[] first = {
+            "0", "01", "201", "1203", "34021", "035241",
+            "5234106", "53412607", "087361524", "0725394861", "0a298715643", "ab2395014687"
+        };
+        String[] second = {
+            "0", "10", "210", "0231", "04231", "032415",
+            "6243150", "26037541", "430168275", "8024563791", "01624a95378", "510472a3698b"
+        };
+        int[] behind = {
+            1, 48271, 182605794, 1291394886, 1914720637, 2078669041,
+            407355683, 1105902161, 854716505, 564586691, 1596680831, 192302371
+        };
+        for (int many = 1; many <= 12; many++) {
+            KickflipPark p = new KickflipPark();
+            p.event('b', 0, 1);
+            p.event('b', 0, 1);
+            for (int i = 0; i < many; i++) {
+                p.athlete(i % 4);
+                p.enter(0, i);
+                p.enter(1, i);
+            }
+            c.due("first of " + many, p.draw(0), Character.digit(first[many - 1].charAt(0), 12));
+            c.due("drawn of " + many, order(p, many), first[many - 1]);
+            c.due("z behind " + many, p.seed(behind[many - 1]), behind[many - 1]);
+            p.draw(1);
+            c.due("the other event of " + many, order(p, 1, many), second[many - 1]);
+            c.due("the first event's draw stands for " + many, order(p, many), first[many - 1]);
+        }
+    }
+
     private static String order(KickflipPark p, int many) {
+        return order(p, 0, many);
+    }
+
+    /** The athletes in their order, 10 and 11 as a and b. */
+    private static String order(KickflipPark p, int event, int many) {
         StringBuilder order = new StringBuilder();
         for (int place = 0; place < many; place++) {
-            order.append(p.starter(0, place));
+            order.append(Character.forDigit(p.starter(event, place), 12));
         }
         return order.toString();
     }

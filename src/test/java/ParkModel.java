@@ -206,9 +206,9 @@ final class ParkModel {
         Meet meet = meets.get(event);
         can(!meet.entered.isEmpty() && !isBegun(meet) && !meet.closed);
         List<Integer> order = new ArrayList<>(meet.entered);
-        for (int k = order.size(); k >= 1; k--) {
+        for (int k = order.size() - 1; k >= 1; k--) {
             z = (int) (48271L * z % 2147483647L);
-            Collections.swap(order, k - 1, z % k);
+            Collections.swap(order, k, z % (k + 1));
         }
         meet.rounds.set(0, order);
         return order.get(0);
