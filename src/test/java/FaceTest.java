@@ -1,6 +1,9 @@
 import java.lang.reflect.Constructor;
 import java.lang.reflect.Method;
 import java.lang.reflect.Modifier;
+import java.nio.file.Files;
+import java.nio.file.Path;
+import java.util.List;
 import java.util.Map;
 import java.util.TreeMap;
 
@@ -53,7 +56,8 @@ public final class FaceTest {
             boolean isTrue()
             """;
 
-    public static void main(String[] args) {
+    public static void main(String[] args) throws java.io.IOException {
+        wordForWord();
         Map<String, String> due = new TreeMap<>();
         for (String line : FACE.strip().split("\n")) {
             due.put(line.substring(line.indexOf(' ') + 1), line.substring(0, line.indexOf(' ')));
@@ -83,5 +87,18 @@ public final class FaceTest {
         c.due("the constructor", constructors[0].toString(), "public KickflipPark()");
         c.due("public fields", KickflipPark.class.getFields().length, 0);
         c.end();
+    }
+
+    /** Names of arguments and 'throws' too, as the document's face has them. */
+    private static void wordForWord() throws java.io.IOException {
+        List<String> written = openLines(Path.of("src/main/java/KickflipPark.java"));
+        List<String> promised = openLines(Path.of("../shared/DOC.md"));
+        c.due("lines of the document's face", promised.size(), 44);
+        c.due("lines of the face", String.join("\n", written), String.join("\n", promised));
+    }
+
+    private static List<String> openLines(Path file) throws java.io.IOException {
+        return Files.readAllLines(file).stream().filter(line -> line.strip().startsWith("public "))
+                .map(line -> line.replaceFirst(" *[;{]$", "").strip()).sorted().toList();
     }
 }
