@@ -1,66 +1,78 @@
+import java.io.IOException;
 import java.lang.reflect.Constructor;
 import java.lang.reflect.Method;
 import java.lang.reflect.Modifier;
 import java.nio.file.Files;
 import java.nio.file.Path;
+import java.util.ArrayList;
 import java.util.List;
 import java.util.Map;
 import java.util.TreeMap;
+import java.util.regex.Matcher;
+import java.util.regex.Pattern;
 
 /** The face: every signature of 'The public face', and nothing beside it. */
 public final class FaceTest {
     private static final Checks c = new Checks("FaceTest");
+    private static final Pattern METHOD = Pattern.compile("^public (\\w+) (\\w+)\\((.*)\\)");
 
+    /** The lines of the document's face, without the signs behind them. */
     private static final String FACE = """
-            int feature(char,int,int,int)
-            int line(int,int,int)
-            int build(int,int,int,int)
-            int trick(char,char,char,char,int,int,int)
-            int tricks()
-            int base(int)
-            char of(int,char)
-            int athlete(int)
-            int quota(int)
-            int event(char,int,int)
-            int enter(int,int)
-            int draw(int)
-            int starter(int,int)
-            int start(int,int)
-            boolean does(int,int,char)
-            int speed()
-            int end()
-            int worth(int,int)
-            int parts(int)
-            int mark(int,int,int)
-            int control(int,int,int)
-            int score(int)
-            int strike(int)
-            int protest(int,int,int)
-            int sum(int,int)
-            int place(int,int)
-            int heat(int,int,int)
-            boolean hold(int,boolean)
-            int round(int,int)
-            boolean close(int)
-            int points(int,int)
-            int list(int)
-            int listed(int)
-            int hurt(int)
-            int day()
-            int risk(int,int,int)
-            long choice(int,int)
-            int seed(int)
-            float fallShare()
-            double meanParts()
-            long checksum()
-            boolean isTrue()
+            public final class KickflipPark
+            public KickflipPark()
+            public int feature(char kind, int least, int greatest, int gain) throws IllegalArgumentException, IllegalStateException
+            public int line(int from, int to, int loss) throws IndexOutOfBoundsException, IllegalArgumentException
+            public int build(int feature, int least, int greatest, int gain) throws IndexOutOfBoundsException, IllegalArgumentException, IllegalStateException
+            public int trick(char stance, char takeOff, char way, char axis, int halves, int grab, int held) throws IllegalArgumentException, IllegalStateException
+            public int tricks()
+            public int base(int trick) throws IndexOutOfBoundsException
+            public char of(int trick, char what) throws IndexOutOfBoundsException, IllegalArgumentException
+            public int athlete(int nation) throws IllegalArgumentException, IllegalStateException
+            public int quota(int quota) throws IllegalArgumentException
+            public int event(char format, int edition, int judges) throws IllegalArgumentException, IllegalStateException
+            public int enter(int event, int athlete) throws IndexOutOfBoundsException, UnsupportedOperationException
+            public int draw(int event) throws IndexOutOfBoundsException, UnsupportedOperationException
+            public int starter(int event, int place) throws IndexOutOfBoundsException, NoSuchElementException
+            public int start(int event, int athlete) throws IndexOutOfBoundsException, UnsupportedOperationException, IllegalStateException
+            public boolean does(int trick, int feature, char fault) throws IndexOutOfBoundsException, IllegalArgumentException, IllegalStateException, UnsupportedOperationException
+            public int speed() throws IllegalStateException
+            public int end() throws IllegalStateException
+            public int worth(int run, int place) throws IndexOutOfBoundsException, NoSuchElementException
+            public int parts(int run) throws IndexOutOfBoundsException
+            public int mark(int run, int judge, int mark) throws IndexOutOfBoundsException, IllegalArgumentException, UnsupportedOperationException
+            public int control(int event, int judge, int above) throws IndexOutOfBoundsException, IllegalArgumentException, UnsupportedOperationException
+            public int score(int run) throws IndexOutOfBoundsException, UnsupportedOperationException
+            public int strike(int run) throws IndexOutOfBoundsException, UnsupportedOperationException
+            public int protest(int run, int place, int trick) throws IndexOutOfBoundsException, NoSuchElementException, UnsupportedOperationException
+            public int sum(int event, int athlete) throws IndexOutOfBoundsException, NoSuchElementException, UnsupportedOperationException
+            public int place(int event, int athlete) throws IndexOutOfBoundsException, NoSuchElementException, UnsupportedOperationException
+            public int heat(int event, int athlete, int other) throws IndexOutOfBoundsException, IllegalArgumentException, NoSuchElementException, UnsupportedOperationException
+            public boolean hold(int event, boolean is) throws IndexOutOfBoundsException, UnsupportedOperationException
+            public int round(int event, int many) throws IndexOutOfBoundsException, IllegalArgumentException, UnsupportedOperationException
+            public boolean close(int event) throws IndexOutOfBoundsException, UnsupportedOperationException
+            public int points(int event, int athlete) throws IndexOutOfBoundsException
+            public int list(int athlete) throws IndexOutOfBoundsException
+            public int listed(int place) throws NoSuchElementException
+            public int hurt(int athlete) throws IndexOutOfBoundsException
+            public int day()
+            public int risk(int athlete, int trick, int risk) throws IndexOutOfBoundsException, IllegalArgumentException
+            public long choice(int athlete, int need) throws IndexOutOfBoundsException, IllegalArgumentException, NoSuchElementException
+            public int seed(int z) throws IllegalArgumentException
+            public float fallShare() throws ArithmeticException
+            public double meanParts() throws ArithmeticException
+            public long checksum()
+            public boolean isTrue()
             """;
 
-    public static void main(String[] args) throws java.io.IOException {
+    public static void main(String[] args) throws IOException {
         wordForWord();
         Map<String, String> due = new TreeMap<>();
         for (String line : FACE.strip().split("\n")) {
-            due.put(line.substring(line.indexOf(' ') + 1), line.substring(0, line.indexOf(' ')));
+            Matcher method = METHOD.matcher(line);
+            if (method.find()) {
+                String types = method.group(3).replaceAll(" \\w+(?=,|$)", "").replace(" ", "");
+                due.put(method.group(2) + "(" + types + ")", method.group(1));
+            }
         }
         c.due("how many promised methods", due.size(), 42);
         for (Method method : KickflipPark.class.getDeclaredMethods()) {
@@ -89,16 +101,20 @@ public final class FaceTest {
         c.end();
     }
 
-    /** Names of arguments and 'throws' too, as the document's face has them. */
-    private static void wordForWord() throws java.io.IOException {
-        List<String> written = openLines(Path.of("src/main/java/KickflipPark.java"));
-        List<String> promised = openLines(Path.of("../shared/DOC.md"));
-        c.due("lines of the document's face", promised.size(), 44);
-        c.due("lines of the face", String.join("\n", written), String.join("\n", promised));
-    }
-
-    private static List<String> openLines(Path file) throws java.io.IOException {
-        return Files.readAllLines(file).stream().filter(line -> line.strip().startsWith("public "))
-                .map(line -> line.replaceFirst(" *[;{]$", "").strip()).sorted().toList();
+    /** Names of arguments and 'throws' too; the class may have its lines in an order of its own. */
+    private static void wordForWord() throws IOException {
+        List<String> written = new ArrayList<>();
+        for (String line : Files.readAllLines(Path.of("src/main/java/KickflipPark.java"))) {
+            if (line.strip().startsWith("public ")) {
+                written.add(line.replaceFirst(" \\{$", "").strip());
+            }
+        }
+        List<String> promised = FACE.lines().toList();
+        for (String line : promised) {
+            c.due("the class has " + line, written.contains(line), true);
+        }
+        for (String line : written) {
+            c.due("the document has " + line, promised.contains(line), true);
+        }
     }
 }
